@@ -169,6 +169,7 @@ public final class PromisesTest {
         fault(0, "ey00;p", 3);
         fault(0, "ey01;p", NONE);
         fault(0, "ew1;p", NONE);
+        fault(0, "ew0;p", NONE);
         fault(0, "ew02;p", 3);
         fault(0, "pf9;e", NONE);
         fault(0, "pf10;e", 3);
@@ -408,6 +409,9 @@ public final class PromisesTest {
         worth("y:!!1=1?6;y:7", 6);
         worth("y:[1]=1?6;y:7", 6);
         worth("y:4;y:5", 4);
+        worth("y:1=2|1=2?6;y:7", 7);
+        worth("y:1=2?6", 0);
+        worth("y:!1=1|!(1=1)|1=1?6;y:7", 6);
     }
 
     // 10
@@ -449,11 +453,12 @@ public final class PromisesTest {
         is("11: d at first", z.draws(0, 0), 0);
         z.day();
         is("11: d then", z.draws(0, 0), 1);
-        WallChapels w = Kit.town("ew1;pf1;pf0");
+        WallChapels w = Kit.town("ew1;pf3;pf0");
         is("11: none went", w.day(), 0);
-        is("11: FAITH one less", w.walker(0, 1), 0);
+        is("11: FAITH one less", w.walker(0, 1), 2);
         is("11: FAITH not below 0", w.walker(1, 1), 0);
         is("11: both lapsed", w.log(0, 1), 3);
+        is("11: nobody at a chapel", w.log(0, 0), 0);
         is("11: no COINS", w.count(8), 20);
     }
 
@@ -502,6 +507,7 @@ public final class PromisesTest {
         is("26: d behind 999", z.worn(2, z.corner(2, 0) + 1), 3);
         is("26: d up to 999", z.corner(0, 0) > 997 ? 2 : z.worn(0, z.corner(0, 0) + 2), 2);
         is("11: 998", z.count(7), 998);
+        is("17: up to 999", z.years(1, 3), 999);
     }
 
     // 12
@@ -543,6 +549,9 @@ public final class PromisesTest {
         is("13: COINS for one", y.lamp(0), 1);
         is("13: too few", y.lamp(0), NONE);
         is("13: one COIN left", y.count(8), 1);
+        WallChapels z = Kit.town("sk2;e;p");
+        is("13: just enough", z.lamp(1), 1);
+        is("13: no COIN left", z.count(8), 0);
     }
 
     // 14
@@ -576,6 +585,9 @@ public final class PromisesTest {
         is("15: five", y.preach(0), 5);
         is("15: too few", y.preach(0), NONE);
         is("15: COINS stay", y.count(8), 3);
+        y.give(1);
+        is("15: just enough", y.preach(0), 6);
+        is("15: no COIN left", y.count(8), 0);
     }
 
     // 16
@@ -911,6 +923,11 @@ public final class PromisesTest {
         is("28: nothing fits", x.knocked(NONE), 0);
         is("28: nothing", x.knocked(0), NONE);
         is("28: no walls changed", x.street(3, 3), 1);
+        WallChapels y = Kit.town("sn8;ew1;ew1;ew1;ew1;ew1;ew1;ew1;ew1;ew1;ew1;ew1;ew1;p");
+        is("28: thirteen", y.knocked(NONE), 13);
+        is("28: street 0", y.knocked(0), 0);
+        is("28: street 11", y.knocked(11), 11);
+        is("28: as now, last", y.knocked(12), 99);
     }
 
     // 29
@@ -943,7 +960,12 @@ public final class PromisesTest {
         WallChapels y = Kit.town(RING);
         is("30: one for 2", y.walls(4), 4);
         is("30: two for 0", y.walls(1), 3);
-        is("30: 1 and 2", y.walls(6), 5);
+        is("30: 1 and 2 of the ring", y.walls(6), 5);
+        WallChapels z = Kit.town("e;e;e;e;e;e;e;e;e;e;e;e;p");
+        is("30: eleven of twelve", z.walls(3), 2047);
+        is("30: three corners", z.walls(7), NONE);
+        is("30: no such corner", z.walls(16), NONE);
+        is("31: twelve", z.parted(0, 1), 4095);
     }
 
     // 31
@@ -1134,6 +1156,21 @@ public final class PromisesTest {
         y.day();
         is("39: DEEPEST", y.all(4), 4);
         is("39: no TOWN", new WallChapels().all(0), NONE);
+        WallChapels z = Kit.town("e;pf3;pf7;pf7");
+        is("39: FAITHFUL, the lowest", z.all(7), 1);
+        is("39: DARK", z.all(11), 3);
+        z.lamp(0);
+        is("39: not DARK", z.all(11), 2);
+        is("39: BUSIEST, the lowest", z.all(6), 0);
+        is("39: LONELIEST, the lowest", z.all(5), 2);
+        is("39: REMOTE, the lowest", z.all(8), 0);
+        is("39: MIDDLE, the lowest", z.all(9), 2);
+        z.day();
+        int worn = z.corner(0, 0) > 0 ? 0 : 1;
+        is("39: DEEPEST", z.all(4), worn);
+        WallChapels w = Kit.town("e;p h1f0");
+        w.day();
+        is("39: DEEPEST at 1", w.all(4), 1);
     }
 
     // 40
