@@ -411,6 +411,8 @@ public final class PromisesTest {
         worth("y:4;y:5", 4);
         worth("y:1=2|1=2?6;y:7", 7);
         worth("y:1=2?6", 0);
+        worth("y:!(1=1&2=2)?6;y:7", 7);
+        worth("y:!(1=1|2=3)?6;y:7", 7);
         worth("y:!1=1|!(1=1)|1=1?6;y:7", 6);
     }
 
