@@ -32,6 +32,9 @@ public final class LanguageTest {
         }
         face(bare);
         methods(bare);
+        library(bare);
+        fields(bare);
+        made(bare);
         Kit.close();
     }
 
@@ -70,5 +73,51 @@ public final class LanguageTest {
             }
         }
         Kit.same("classes", classes <= 12, true);
+    }
+
+    /** Rules 4, 6 and 10: no library but these functions, one exception with a written text, no other text. */
+    private static void library(String bare) {
+        String known = " System.arraycopy Integer.bitCount Math.abs Math.floorMod Math.max Math.min ";
+        Matcher m = Pattern.compile("\\b([A-Z]\\w*)\\.([a-z]\\w*)").matcher(bare);
+        while (m.find()) {
+            boolean own = bare.contains("class " + m.group(1) + " {");
+            Kit.same("of the library: " + m.group(), own || known.contains(" " + m.group() + " "), true);
+        }
+        Kit.same("throws", count(bare, "\\bthrow\\b"), 1);
+        Kit.same("throws by a written text", count(bare, "throw new NoSuchElementException\\(\"[^\"]*\"\\);"), 1);
+        Kit.same("signs of texts", count(bare, "\""), 2);
+        Kit.same("texts", count(bare, "\\b(String|StringBuilder|Object|List|ArrayList)\\b"), 0);
+    }
+
+    /** Rules 2, 5 and 11: classes inside are private and static, static fields final, few fields a class. */
+    private static void fields(String bare) {
+        Kit.same("classes inside", count(bare, "\\bclass \\w+"), count(bare, "private static final class \\w+ \\{") + 1);
+        Kit.same("public classes", count(bare, "public final class WallChapels \\{"), 1);
+        Kit.same("static fields that may change", count(bare, "(?m)^ +(private|public) static (?!final)[^(]*[;=]"), 0);
+        String[] parts = bare.split("\\bclass ");
+        for (int i = 1; i < parts.length; i++) {
+            String name = parts[i].substring(0, parts[i].indexOf(' '));
+            Kit.same("fields of " + name, count(parts[i], "(?m)^ +private (?!static)[^(]*(=.*)?;") <= 20, true);
+        }
+    }
+
+    /** Rule 12: what is made is made once, with the object: in a field, or by the constructor of the acts. */
+    private static void made(String bare) {
+        for (String line : bare.split("\n")) {
+            if (line.matches(".*\\bnew\\b.*")) {
+                boolean once = line.matches(" +private final .* = new .*;") || line.contains("kept[i] = new Scene();")
+                    || line.contains("throw new NoSuchElementException(");
+                Kit.same("made by " + line.trim(), once, true);
+            }
+        }
+    }
+
+    private static int count(String text, String pattern) {
+        Matcher m = Pattern.compile(pattern).matcher(text);
+        int found = 0;
+        while (m.find()) {
+            found++;
+        }
+        return found;
     }
 }

@@ -1,6 +1,6 @@
 import java.util.NoSuchElementException;
 
-/** Wild arguments in all states: nothing is thrown but what the document names, refused calls change nothing. */
+/** Wild arguments in all states: nothing is thrown but what the document names. */
 public final class WrongCallsTest {
     private static final int[] WILD = {Integer.MIN_VALUE, Integer.MIN_VALUE + 1, -1000000, -100, -3, -2, -1, 0, 1, 2, 3, 4, 7, 8,
         9, 10, 11, 12, 13, 15, 16, 31, 32, 33, 40, 41, 59, 60, 61, 63, 64, 98, 99, 100, 101, 255, 256, 999, 1000, 4095, 4096,
@@ -22,7 +22,6 @@ public final class WrongCallsTest {
             }
             Kit.same("run " + run, true, true);
         }
-        refusals();
         Kit.close();
     }
 
@@ -97,36 +96,6 @@ public final class WrongCallsTest {
             case 40: return x.back();
             case 41: return x.count(a[0]);
             default: return x.years(a[0] & 15, a[1]);
-        }
-    }
-
-    /** What is refused changes nothing: the number of acts and all that can be counted stays. */
-    private static void refusals() {
-        WallChapels x = Kit.town("sn3k0;e;eb2y9;p;ph2f9");
-        for (int a : WILD) {
-            boolean corner = a >= 0 && a < 3;
-            boolean two = a >= 0 && a < 2;
-            Kit.same("wall(" + a + ") without coins", x.wall(a), -1);
-            Kit.same("lamp(" + a + ") without coins", x.lamp(a), -1);
-            Kit.same("moves(0, " + a + ") without coins", x.moves(0, a), -1);
-            Kit.same("preach(" + a + ") without coins", x.preach(a), -1);
-            if (!corner) {
-                Kit.same("seen(" + a + ")", x.seen(a, true), -1);
-            }
-            if (a < 1 || a > 50) {
-                Kit.same("give(" + a + ")", x.give(a), -1);
-            }
-            if (a < 1 || a > 30) {
-                Kit.same("years(" + a + ")", x.years(a, 1), -1);
-            }
-            if (!two) {
-                Kit.walkerMissing(x, a, 0);
-                Kit.walkerMissing(x, 0, a);
-                Kit.same("soon(" + a + ")", x.soon(a), -1);
-            }
-            for (int what = 7; what <= 12; what++) {
-                Kit.same("count(" + what + ") behind " + a, x.count(what), what == 9 ? 1 : 0);
-            }
         }
     }
 }
