@@ -51,11 +51,13 @@ public final class EdgesTest {
         dark();
         around();
         yearsDrawn();
+        yearsAheadOfEachDay();
         yearsGoRound();
         yearsAtMost();
         images();
         imagesOfTheLog();
         imagesAndUndo();
+        eachCornerAndWalkerAgain();
         countsOfATown();
         Kit.close();
     }
@@ -205,6 +207,12 @@ public final class EdgesTest {
         is("11: three went", y.day(), 3);
         is("11: all to 2", y.corner(2, 0), 3);
         is("19: CHAPELS", y.log(0, 0), 4);
+        for (int walkers = 1; walkers <= 4; walkers++) {
+            WallChapels z = Kit.town("e" + ";p".repeat(walkers));
+            is("11: all went", z.day(), walkers);
+            is("11: all to 0", z.corner(0, 0), walkers);
+            is("19: one CHAPEL, by however many", z.log(0, 0), 1);
+        }
     }
 
     // is there none, he LAPSES: FAITH one less (0 at least)
@@ -570,6 +578,10 @@ public final class EdgesTest {
         is("23: 0235 and 0415", w.way(0, 5), 235);
         is("23: 5140 and 5320", w.way(5, 0), 5140);
         is("22: of both", w.far(0, 5), 6);
+        // 0 is one yard and no street farther off than 1 is, but no street leads there
+        WallChapels apart = Kit.town("sn5;ea1b3y1;ea3b4y1;ea0b4y3;p");
+        is("23: not by 0", apart.way(1, 4), 134);
+        is("23: to 0", apart.way(1, 0), 1340);
         WallChapels most = Kit.town("sn8;ea0b1y40;ea1b2y40;ea2b3y40;ea3b4y40;ea4b5y40;ea5b6y40;ea6b7y40;p");
         is("22: the farthest there is", most.far(7, 0), 280);
         is("22: its WAY", most.way(0, 7), 1234567);
@@ -1032,6 +1044,24 @@ public final class EdgesTest {
         }
     }
 
+    // ahead of each DAY: it is lived from the new HOME, behind the new WALL
+    private static void yearsAheadOfEachDay() {
+        for (int seed = 0; seed < 40; seed++) {
+            WallChapels x = Kit.town("e;p");
+            x.council(0);
+            x.years(1, seed);
+            int home = x.walker(0, 0);
+            is("17: LAPSED at " + home, x.log(0, 1), home > 1 ? 1 : 0);
+            is("17: FAITH at " + home, x.walker(0, 1), home > 1 ? 3 : 4);
+            is("17: MARK at " + home, x.corner(home, 0), home > 1 ? 0 : 1);
+            WallChapels y = Kit.town("sn2;e;p");
+            y.council(9);
+            y.years(1, seed);
+            is("17: LAPSED behind a WALL", y.log(0, 1), y.street(0, 3));
+            is("17: COINS behind a WALL", y.log(0, 2), 21 - y.street(0, 3));
+        }
+    }
+
     // 64 bits, going round; shifted right without sign
     private static void yearsGoRound() {
         long[] seeds = {0, 1, -1, 2, -2, Long.MAX_VALUE, Long.MIN_VALUE, Long.MAX_VALUE - 1, Long.MIN_VALUE + 1, Integer.MAX_VALUE,
@@ -1163,6 +1193,41 @@ public final class EdgesTest {
         x.seen(0, true);
         x.back();
         is("42: SEEN is not of it", x.count(10), 1);
+    }
+
+    // MARKS, LAMPS, HOMES, FAITH of each corner and walker are UNDONE and kept by an IMAGE, up to the last
+    private static void eachCornerAndWalkerAgain() {
+        String town = "sn8k99;ea0b1;ea2b3;ea4b5;ea6b7;p;ph2;ph4;ph6";
+        for (int times = 0; times < 2; times++) {
+            WallChapels x = Kit.town(town);
+            x.image();
+            for (int c = 0; c < 8; c++) {
+                x.lamp(c);
+            }
+            for (int w = 0; w < 4; w++) {
+                x.moves(w, 2 * w + 1);
+                x.preach(w);
+            }
+            is("11: all went", x.day(), 4);
+            for (int w = 0; w < 4; w++) {
+                is("11: MARK at " + (2 * w + 1), x.corner(2 * w + 1, 0), 1);
+            }
+            if (times == 0) {
+                is("42: back", x.back(), 0);
+            }
+            for (int i = 0; i < 17 && times == 1; i++) {
+                is("18: one by one", x.undo(), 16 - i);
+            }
+            for (int c = 0; c < 8; c++) {
+                is("MARK again at " + c, x.corner(c, 0), 0);
+                is("LAMPS again at " + c, x.corner(c, 1), 0);
+            }
+            for (int w = 0; w < 4; w++) {
+                is("HOME again of " + w, x.walker(w, 0), 2 * w);
+                is("FAITH again of " + w, x.walker(w, 1), 4);
+            }
+            is("COINS again", x.count(8), 99);
+        }
     }
 
     private static void countsOfATown() {

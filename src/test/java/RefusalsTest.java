@@ -38,6 +38,7 @@ public final class RefusalsTest {
         }
         lived.noSuchThings();
         lived.byItsText();
+        besideAnotherText();
         poor.withoutCoins();
         full.atMost();
         Kit.close();
@@ -238,6 +239,64 @@ public final class RefusalsTest {
             refused("fault of " + sort, sort == 0 ? 5 : 0, x -> x.fault(k));
             refused("text of " + sort, NONE, x -> x.text(k));
         }
+    }
+
+    /** A text of another town that is on the tape, but not told, changes no answer about the town there is. */
+    private static void besideAnotherText() {
+        String[] texts = {"sn2;e;p", "sn8k1;ea7b6y40;ea6b5w1;ea5b4;ea4b3;ea3b2;ea2b1;e;e;e;e;e;e;p;p;p;ph7f0", "sn3;ea1b2;ea1b2;p;p;q", "e"};
+        for (String text : texts) {
+            WallChapels untouched = lived();
+            Kit.tape(untouched, text);
+            WallChapels looked = lived();
+            Kit.tape(looked, text);
+            looked.fault(0);
+            String[] due = answers(untouched).split(";");
+            String[] got = answers(looked).split(";");
+            for (int i = 0; i < due.length; i++) {
+                Kit.same("beside '" + text + "': " + got[i] + ", not " + due[i], got[i].equals(due[i]), true);
+            }
+            Kit.same("beside '" + text + "': answers", got.length, due.length);
+            // the last corner's lamp and the last walker's faith
+            WallChapels last = Kit.town("sn8k99;ea7b6;ea7b5;p;p;p;pf9");
+            last.lamp(6);
+            Kit.tape(last, text);
+            last.fault(0);
+            Kit.same("beside '" + text + "': FAITHFUL", last.all(7), 3);
+            Kit.same("beside '" + text + "': DARK", last.all(11), 32);
+        }
+    }
+
+    /** What every call answers that asks, then what acts bring about; some 350 calls. */
+    private static String answers(WallChapels x) {
+        StringBuilder b = new StringBuilder();
+        for (int what = 0; what <= 12; what++) {
+            b.append(";count and all ").append(x.count(what)).append(' ').append(x.all(what));
+        }
+        for (int c = 0; c < 5; c++) {
+            b.append(";corner ").append(x.corner(c, 2)).append(' ').append(x.draws(0, c)).append(' ').append(x.goers(c));
+            b.append(";far ").append(x.far(0, c)).append(' ').append(x.way(c, 3)).append(' ').append(x.around(c, 9));
+            b.append(";feast ").append(x.feast(c, 0)).append(' ').append(x.feast(c, 1));
+            b.append(";worn ").append(x.worn(c, 5)).append(' ').append(x.shares(c, 999));
+            b.append(";parted ").append(x.parted(0, c)).append(' ').append(x.parted(c, 3));
+            b.append(";street ").append(x.street(c, 0)).append(' ').append(x.street(c, 1)).append(' ').append(x.street(c, 2));
+        }
+        for (int set = 0; set < 34; set++) {
+            b.append(";walls ").append(x.walls(set));
+        }
+        for (int w = 0; w < 4; w++) {
+            b.append(";walker ").append(x.goes(w)).append(' ').append(x.soon(w)).append(' ').append(x.odds(w, 40));
+            b.append(";game ").append(x.game(w, 1, w, 3, 0)).append(' ').append(x.game(0, w, 4, w, 1)).append(' ').append(x.rests(0, w, NONE));
+        }
+        for (int i = -1; i < 6; i++) {
+            b.append(";knocked ").append(x.knocked(i)).append(' ').append(x.check(0, i)).append(' ').append(x.rests(0, 1, i));
+        }
+        b.append(";ask ").append(x.ask());
+        b.append(";acts ").append(x.wall(3)).append(' ').append(x.lamp(4)).append(' ').append(x.preach(1)).append(' ').append(x.day());
+        for (int seed = 0; seed < 5; seed++) {
+            b.append(";years ").append(x.years(3, seed)).append(' ').append(x.count(8)).append(' ').append(x.goes(0)).append(' ').append(x.goes(1));
+            b.append(";homes ").append(walkerOf(x, 0, 0)).append(' ').append(walkerOf(x, 1, 0)).append(' ').append(x.all(0));
+        }
+        return b.append(";undo ").append(x.undo()).append(' ').append(x.all(1)).append(";back ").append(x.back()).append(' ').append(x.all(0)).toString();
     }
 
     private void withoutCoins() {

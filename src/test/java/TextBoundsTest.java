@@ -300,6 +300,23 @@ public final class TextBoundsTest {
             is("other streets at " + c, x.corner(c, 2), open[c]);
         }
         is("other streets' chapels", x.all(0), 12);
+        is("streets far off", Kit.told(x, 0, "sn8k99;ea4b5;ea6b7;ea7b4;p;ph7;ph6;ph5"), 3);
+        for (int c = 0; c < 8; c++) {
+            x.lamp(c);
+            x.lamp(c);
+        }
+        x.day();
+        is("a MARK far off", x.corner(5, 0), 1);
+        is("a MARK farther off", x.corner(6, 0), 2);
+        is("streets nearer", Kit.told(x, 0, "sn8;e;p;p;p;p"), 1);
+        for (int c = 0; c < 8; c++) {
+            is("no MARK at " + c, x.corner(c, 0), 0);
+            is("no LAMPS at " + c, x.corner(c, 1), 0);
+            is("open at " + c, x.corner(c, 2), c < 2 ? 1 : 0);
+        }
+        for (int w = 0; w < 4; w++) {
+            is("HOME of " + w, x.walker(w, 0), 0);
+        }
     }
 
     // CLAUSES with ; between, one at least
@@ -419,6 +436,12 @@ public final class TextBoundsTest {
         fault(1, "y:1=1&((((((1=1))))))|((((((1=1))))))?1", NONE);
         fault(1, "y:1=1&(((((((1=1)))))))?1", 12);
         fault(1, "y:1=1|!!!!!!!1=1?1", 12);
+        for (char joint : new char[] {'&', '|'}) {
+            fault(1, "y:(1=1" + joint + "(((((1=1))))))?1", NONE);
+            fault(1, "y:(1=1" + joint + "((((((1=1)))))))?1", 12);
+            fault(1, "y:((1=1" + joint + "1=1" + joint + "!!!!!1=1))?1", 16);
+            fault(1, "y:!(1=1" + joint + "1=[[[[[1]]]]])?1", 14);
+        }
         fault(1, "y:(!(!(!1=1)))?1", NONE);
         fault(1, "y:(!(!(!(1=1))))?1", 8);
     }
@@ -517,6 +540,12 @@ public final class TextBoundsTest {
             worth("y:" + a + "?1;y:" + b + "?2;y:" + c + "?3", p ? 1 : q ? 2 : r ? 3 : 0);
         }
         worth("y:1=2?5;y:6;y:7", 6);
+        // nothing of a clause whose condition does not hold counts, whatever stands in it
+        for (String sum : new String[] {"y+5", "w+5", "f+5", "l+5", "c+5", "d+5", "5*[y-2]/3", "[[[5]]]+y", "y", "0"}) {
+            worth("y:1=2?" + sum + ";y:7", 7);
+            worth("y:1=2?" + sum + ";y:1=2&y>f|c<d?" + sum + ";y:7", 7);
+            worth("y:1=2?" + sum, 0);
+        }
         worth("y:6;y:1=1?5", 6);
     }
 
