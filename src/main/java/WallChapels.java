@@ -785,9 +785,8 @@ public final class WallChapels {
             wrong = NONE;
         }
 
-        private boolean isDigitAhead() {
-            int value = byteAtHead();
-            return value >= '0' && value <= '9';
+        private static boolean isDigit(int sign) {
+            return sign >= '0' && sign <= '9';
         }
 
         private int byteAtHead() {
@@ -824,13 +823,13 @@ public final class WallChapels {
             ahead();
             int value = 0;
             int read = 0;
-            while (read < digits && isDigitAhead()) {
+            while (read < digits && isDigit(byteAtHead())) {
                 value = value * 10 + byteAtHead() - '0';
                 read++;
                 head++;
             }
             // A digit too many is named ahead of what the digits before it amount to.
-            if (read == 0 || isDigitAhead()) {
+            if (read == 0 || isDigit(byteAtHead())) {
                 wrong = head;
                 return NONE;
             }
@@ -1339,7 +1338,7 @@ public final class WallChapels {
 
         private boolean readAtom(int depth) {
             int sign = tape.ahead();
-            if (sign >= '0' && sign <= '9') {
+            if (Tape.isDigit(sign)) {
                 int value = tape.takeNumber(4, 0, 9999);
                 if (value == NONE) {
                     return false;
