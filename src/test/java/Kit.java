@@ -1,3 +1,4 @@
+import java.nio.file.Path;
 import java.util.NoSuchElementException;
 
 /** What the tests share: feeding a text, comparing answers, a fixed row of numbers for random runs. */
@@ -6,6 +7,12 @@ final class Kit {
     private static int failed = 0;
 
     private Kit() {
+    }
+
+    /** The project's folder: .ci/run names it; by hand the tests are run there. */
+    static Path root() {
+        String named = System.getenv("WALLCHAPELS_ROOT");
+        return Path.of(named != null ? named : ".");
     }
 
     static void same(String what, long got, long due) {

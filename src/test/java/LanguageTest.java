@@ -1,6 +1,5 @@
 import java.io.IOException;
 import java.nio.file.Files;
-import java.nio.file.Path;
 import java.util.ArrayList;
 import java.util.List;
 import java.util.regex.Matcher;
@@ -17,9 +16,7 @@ public final class LanguageTest {
     private static final int MOST_LINES = 60;
 
     public static void main(String[] args) throws IOException {
-        String named = System.getenv("WALLCHAPELS_SOURCE");
-        Path file = Path.of(named != null ? named : "src/main/java/WallChapels.java");
-        String source = Files.readString(file);
+        String source = Files.readString(Kit.root().resolve("src/main/java/WallChapels.java"));
         String bare = source.replaceAll("(?s)/\\*.*?\\*/", "").replaceAll("(?m)//.*$", "");
         for (String barred : BARRED) {
             Matcher m = Pattern.compile(barred, Pattern.MULTILINE).matcher(bare);
